@@ -462,10 +462,7 @@ public final class RoomGone {
 
         /** A hidden folder tells its sums to whoever sees the folder that it is in. */
         boolean maySum(int folder, int who) {
-            if (isSeen(folder, who)) {
-                return true;
-            }
-            return has(folder) && isSeen(parent[folder], who);
+            return has(folder) && (isSeen(folder, who) || isSeen(parent[folder], who));
         }
     }
 

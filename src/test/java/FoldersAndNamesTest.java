@@ -125,6 +125,8 @@ public final class FoldersAndNamesTest {
         }
         Due.none("the 41st", x.file(0, 0, 0));
         Due.none("a copy as the 41st", x.copy(0, 0));
+        Due.none("there is no file 40", x.told(40, 0));
+        Due.none("so it gets no name", x.link(40, 0));
         x.unlink(3);
         Due.none("one that is gone still came", x.file(0, 0, 0));
         Due.is("39 are there", x.count(2), 39);
@@ -136,6 +138,7 @@ public final class FoldersAndNamesTest {
         x.folder(0, 0, false);
         x.file(0, 4, 77);
         Stores.append(x, 0, 2);
+        x.write(0, 0);
         x.hole(0, 2);
         x.share(0, 3, 0, 0);
         x.go(9);
@@ -151,7 +154,7 @@ public final class FoldersAndNamesTest {
         Due.is("the original isn't changed", x.told(0, 3), 0);
         Due.is("no block came", x.count(6), 2);
         x.write(1, 0);
-        Due.is("a write to the copy leaves the original", x.block(0, 0), 0);
+        Due.is("a write to the copy leaves the original", x.block(0, 0), 2);
         x.cut(0, 0);
         Due.is("a cut of the original leaves the copy", x.told(1, 0), 4);
         Due.is("it is in folder 1", x.named(1, 0, 0), 1);
@@ -200,6 +203,8 @@ public final class FoldersAndNamesTest {
         Due.none("the 101st", x.link(0, 0));
         Due.none("a file as the 101st", x.file(0, 0, 0));
         Due.none("a copy as the 101st", x.copy(0, 0));
+        Due.none("there is no name 100", x.of(100));
+        Due.no("so it can't go", x.unlink(100));
         x.unlink(50);
         Due.none("names that went still came", x.link(0, 0));
         Due.is("no file came by what was refused", x.count(2), 1);

@@ -29,9 +29,8 @@ public final class LanguageTest {
         methodsAreTheFace();
         fieldsAndConstructorsAreTheFace();
         nestedClassesKeepTheRules();
-        if (args.length > 0) {
-            sourceKeepsTheRules(Files.readString(Path.of(args[0])));
-        }
+        Due.is("the source's path is the argument", args.length, 1);
+        sourceKeepsTheRules(Files.readString(Path.of(args[0])));
         Due.end();
     }
 

@@ -12,6 +12,7 @@ public final class SnapshotsAndMarksTest {
         promise28Full();
         promise28RoundsBothWays();
         promise28MarksSideBySide();
+        promise28AllMarks();
         promise28NoDay();
         Due.end();
     }
@@ -93,6 +94,7 @@ public final class SnapshotsAndMarksTest {
         }
         Due.none("20 came", x.mark());
         Due.is("20 are told", x.count(5), 20);
+        Due.is("there is no mark 20", x.grew(0, 20, -1), NO_GROWTH);
         Stores.fileOf(x, 2);
         Due.is("what was marked stays", x.grew(0, 19, -1), 2);
     }
@@ -192,6 +194,9 @@ public final class SnapshotsAndMarksTest {
         RoomGone apart = marked(0, 0, 1, 9, 2, 4, 3, 6);
         Due.is("the greatest is of neighbours", apart.full(0), 9);
         Due.none("the least is below 0", apart.full(1));
+        RoomGone slowFirst = marked(0, 0, 1, 1, 2, 11);
+        Due.is("the first pair is the least", slowFirst.full(1), 51);
+        Due.is("the last pair is the greatest", slowFirst.full(0), 7);
         RoomGone other = marked(0, 0, 10, 10);
         other.folder(0, 0, false);
         other.file(1, 0, 0);
@@ -199,6 +204,16 @@ public final class SnapshotsAndMarksTest {
         other.go(10);
         other.mark();
         Due.is("the root's tree has what is below", other.full(1), 60);
+    }
+
+    private static void promise28AllMarks() {
+        int[] all = new int[40];
+        for (int mark = 0; mark < 20; mark++) {
+            all[2 * mark] = mark;
+            all[2 * mark + 1] = mark < 19 ? mark : 20;
+        }
+        Due.is("by the last of 20 marks", marked(all).full(0), 39);
+        Due.is("by the others", marked(all).full(1), 59);
     }
 
     private static void promise28NoDay() {

@@ -26,6 +26,10 @@ public final class SumsTest {
         Due.is("files of 2, each once", x.sum(2, 0, 2), 2);
         Due.is("taken of 1", x.sum(1, 0, 0), 5);
         Due.is("told of the root, each file once", x.sum(0, 0, 1), 7);
+        Stores.fileIn(x, 0, 1, 4);
+        Due.is("told of 1, without what is above", x.sum(1, 0, 1), 7);
+        Due.is("told of the root, with it", x.sum(0, 0, 1), 11);
+        x.unlink(4);
         x.unlink(1);
         Due.is("taken of 2 without file 1", x.sum(2, 0, 0), 2);
         x.snapshot();
