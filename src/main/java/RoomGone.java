@@ -46,10 +46,10 @@ public final class RoomGone {
     }
 
     public int go(int n) {
-        if (n < 0 || n > LONGEST_GO || today + n > LAST_DAY) {
+        if (n < 0 || n > LONGEST_GO) {
             return NONE;
         }
-        today += n;
+        today = Math.min(today + n, LAST_DAY);
         return today;
     }
 

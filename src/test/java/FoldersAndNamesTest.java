@@ -4,6 +4,7 @@ public final class FoldersAndNamesTest {
         promise1NewObject();
         promise2Go();
         promise2GoNearTheLastDay();
+        promise2GoStopsAtTheLastDay();
         promise3Folder();
         promise4Move();
         promise5File();
@@ -46,12 +47,32 @@ public final class FoldersAndNamesTest {
 
     private static void promise2GoNearTheLastDay() {
         RoomGone x = new RoomGone();
-        Stores.goFar(x, 4990);
-        Due.none("go(11) from 4990", x.go(11));
-        Due.is("NOW stays", x.count(0), 4990);
+        Stores.goFar(x, 4989);
+        Due.is("go(1) from 4989", x.go(1), 4990);
+        Due.none("go(501) from 4990", x.go(501));
+        Due.none("go(-1) from 4990", x.go(-1));
+        Due.is("NOW after what was refused", x.count(0), 4990);
         Due.is("go(10) from 4990", x.go(10), 5000);
-        Due.none("go(1) from 5000", x.go(1));
         Due.is("go(0) from 5000", x.go(0), 5000);
+        Due.is("go(1) from 5000", x.go(1), 5000);
+        Due.is("go(500) from 5000", x.go(500), 5000);
+        Due.none("go(501) from 5000", x.go(501));
+        Due.none("go(-1) from 5000", x.go(-1));
+        Due.is("NOW on the last day", x.count(0), 5000);
+    }
+
+    private static void promise2GoStopsAtTheLastDay() {
+        int[] beyond = {11, 12, 55, 499, 500};
+        for (int n : beyond) {
+            RoomGone x = new RoomGone();
+            Stores.goFar(x, 4990);
+            x.file(0, 0, 0);
+            Due.is("go(" + n + ") from 4990", x.go(n), 5000);
+            Due.is("NOW after go(" + n + ") from 4990", x.count(0), 5000);
+            Due.is("the day of what came before", x.told(0, 3), 4990);
+            x.write(0, 0);
+            Due.is("the day of a change then", x.told(0, 3), 5000);
+        }
     }
 
     private static void promise3Folder() {

@@ -18,6 +18,16 @@ public final class LongRunsTest {
         folders = 1 + random.nextInt(seed % 3 == 0 ? 30 : 6);
         files = 1 + random.nextInt(seed % 4 == 0 ? 40 : 8);
         wildness = 3 + random.nextInt(60);
+        if (seed % 5 == 0) {
+            startLate();
+        }
+    }
+
+    /** So that the run comes to the last day early, and has marks and changes there. */
+    private void startLate() {
+        for (int i = 0; i < 10; i++) {
+            Due.is("a late start", store.go(499), model.go(499));
+        }
     }
 
     public static void main(String[] args) {

@@ -138,10 +138,13 @@ final class PlainModel {
     }
 
     int go(int n) {
-        if (n < 0 || n > 500 || now + n > 5000) {
+        if (n < 0 || n > 500) {
             return NONE;
         }
-        return now += n;
+        for (int i = 0; i < n && now < 5000; i++) {
+            now++;
+        }
+        return now;
     }
 
     int folder(int in, int owner, boolean hidden) {
