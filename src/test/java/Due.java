@@ -2,15 +2,21 @@
 final class Due {
     private static int asked = 0;
     private static int wrong = 0;
+    private static String promise = "";
 
     private Due() {
+    }
+
+    /** The sentence of the document that the next answers stand for; it is printed with a wrong one. */
+    static void about(String sentence) {
+        promise = sentence + ": ";
     }
 
     static void is(String call, long got, long due) {
         asked++;
         if (got != due) {
             wrong++;
-            System.out.println(call + " answered " + got + ", due is " + due);
+            System.out.println(promise + call + " answered " + got + ", due is " + due);
         }
     }
 

@@ -1,8 +1,12 @@
 import java.util.Random;
 
-/** All promises: long runs of calls, each answer compared with the plain model's. */
+/**
+ * All promises: long runs of calls, each answer compared with the plain model's. What a call needs to know
+ * beforehand is asked of the model, as the store answers for 512 calls alone.
+ */
 public final class LongRunsTest {
     private static final int CALLS = 512;
+    private static final int CALLS_TO_START_LATE = 10;
 
     private final Random random;
     private final RoomGone store = new RoomGone();
@@ -10,6 +14,7 @@ public final class LongRunsTest {
     private final int folders;
     private final int files;
     private final int wildness;
+    private int callsLeft = CALLS;
     private String call = "";
 
     private LongRunsTest(int seed) {
@@ -25,15 +30,16 @@ public final class LongRunsTest {
 
     /** So that the run comes to the last day early, and has marks and changes there. */
     private void startLate() {
-        for (int i = 0; i < 10; i++) {
+        for (int i = 0; i < CALLS_TO_START_LATE; i++) {
             Due.is("a late start", store.go(499), model.go(499));
         }
+        callsLeft -= CALLS_TO_START_LATE;
     }
 
     public static void main(String[] args) {
         for (int seed = 0; seed < 400; seed++) {
             LongRunsTest run = new LongRunsTest(seed);
-            for (int i = 0; i < CALLS; i++) {
+            for (int i = 0; i < run.callsLeft; i++) {
                 run.compare("run " + seed + ", call " + i + ": ");
             }
         }
@@ -49,15 +55,15 @@ public final class LongRunsTest {
     }
 
     private int folder() {
-        return pick(Math.min(folders, store.count(1)));
+        return pick(Math.min(folders, model.count(1)));
     }
 
     private int file() {
-        return pick(Math.max(1, Math.min(files, store.count(2) + 2)));
+        return pick(Math.max(1, Math.min(files, model.count(2) + 2)));
     }
 
     private int place(int file) {
-        int length = Math.max(0, store.told(file, 0));
+        int length = Math.max(0, model.told(file, 0));
         return random.nextInt(3) > 0 ? length : pick(length + 1);
     }
 
@@ -80,7 +86,7 @@ public final class LongRunsTest {
         int file = file();
         int place = place(file);
         int other = file();
-        int at = pick(Math.max(1, store.told(other, 0)));
+        int at = pick(Math.max(1, model.told(other, 0)));
         switch (random.nextInt(5)) {
             case 0:
             case 1:
@@ -98,14 +104,14 @@ public final class LongRunsTest {
     private long[] change(int kind) {
         int a = folder();
         int b = folder();
-        int name = pick(Math.max(1, store.count(3) + 3));
+        int name = pick(Math.max(1, model.count(3) + 3));
         int file = file();
         call = "change " + kind + " of " + a + " " + b + " " + name + " " + file;
         switch (kind) {
             case 10:
                 int owner = pick(6);
                 boolean hidden = random.nextInt(3) == 0;
-                return store.count(1) >= folders ? two(0, 0)
+                return model.count(1) >= folders ? two(0, 0)
                     : two(store.folder(a, owner, hidden), model.folder(a, owner, hidden));
             case 11:
                 return two(store.move(a, b), model.move(a, b));
@@ -121,7 +127,7 @@ public final class LongRunsTest {
             case 16:
                 return changeStore();
             case 17:
-                int length = pick(Math.max(1, store.told(file, 0)) + 1);
+                int length = pick(Math.max(1, model.told(file, 0)) + 1);
                 return two(store.cut(file, length), model.cut(file, length));
             case 18:
                 int days = random.nextInt(3) == 0 ? pick(501) : random.nextInt(6);
@@ -200,7 +206,7 @@ public final class LongRunsTest {
             case 37:
                 return two(store.largest(folder, k), model.largest(folder, k));
             default:
-                int mark = pick(Math.max(1, store.count(5)));
+                int mark = pick(Math.max(1, model.count(5)));
                 return two(store.grew(folder, mark, k - 1), model.grew(folder, mark, k - 1));
         }
     }

@@ -1,4 +1,4 @@
-/** Makes stores for the tests, and takes all that they tell of themselves. */
+/** Makes stores for the tests. */
 final class Stores {
     /** Numbers that are near the edges of what a call takes, or far beyond them. */
     static final int[] WILD = {
@@ -29,46 +29,6 @@ final class Stores {
     static void goFar(RoomGone store, int days) {
         for (int left = days; left > 0; left -= Math.min(left, 500)) {
             store.go(Math.min(left, 500));
-        }
-    }
-
-    /** All that can be asked without a change, as a text. */
-    static String stateOf(RoomGone store) {
-        StringBuilder all = new StringBuilder();
-        for (int what = 0; what < 8; what++) {
-            all.append(store.count(what)).append(' ');
-        }
-        addFolders(store, all);
-        addFiles(store, all);
-        for (int name = 0; name < 100; name++) {
-            all.append(store.of(name)).append(' ');
-        }
-        for (int snapshot = 0; snapshot < 8; snapshot++) {
-            all.append(store.alone(snapshot)).append(' ');
-        }
-        return all.append(store.full(0)).append(' ').append(store.full(1)).toString();
-    }
-
-    private static void addFolders(RoomGone store, StringBuilder all) {
-        for (int folder = 0; folder < store.count(1); folder++) {
-            for (int who = 0; who < 6; who++) {
-                all.append(store.sum(folder, who, 0)).append(' ').append(store.sum(folder, who, 1)).append(' ')
-                    .append(store.sum(folder, who, 2)).append(' ').append(store.named(folder, who, 0)).append(' ');
-            }
-            for (int mark = 0; mark < store.count(5); mark++) {
-                all.append(store.grew(folder, mark, RoomGone.NONE)).append(' ');
-            }
-        }
-    }
-
-    private static void addFiles(RoomGone store, StringBuilder all) {
-        for (int file = 0; file < 40; file++) {
-            for (int what = 0; what < 7; what++) {
-                all.append(store.told(file, what)).append(' ');
-            }
-            for (int place = 0; place < 60; place++) {
-                all.append(store.block(file, place)).append(' ');
-            }
         }
     }
 }

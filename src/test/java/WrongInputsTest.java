@@ -1,7 +1,8 @@
 /** All promises: wild numbers in every argument; what is refused changes nothing, and nothing throws. */
 public final class WrongInputsTest {
     private static final int CHANGES = 15;
-    private static final String BEFORE = Stores.stateOf(sample());
+    private static final Questions QUESTIONS = new Questions(3, 2, 3, 2);
+    private static final String BEFORE = QUESTIONS.answersOf(WrongInputsTest::sample);
 
     public static void main(String[] args) {
         for (int a : Stores.WILD) {
@@ -33,6 +34,11 @@ public final class WrongInputsTest {
 
     /** Calls that only ask may answer anything here, but they change nothing. */
     private static void askAll(int a, int b) {
+        Due.yes("asking with " + a + ", " + b + " changes nothing",
+            BEFORE.equals(QUESTIONS.answersOf(() -> asked(a, b))));
+    }
+
+    private static RoomGone asked(int a, int b) {
         RoomGone x = sample();
         for (int c : new int[] {-1, 0, 1, Integer.MIN_VALUE, Integer.MAX_VALUE}) {
             x.sum(a, b, c);
@@ -54,14 +60,17 @@ public final class WrongInputsTest {
         x.full(a);
         x.told(a, b);
         x.count(a);
-        Due.yes("asking with " + a + ", " + b + " changes nothing", BEFORE.equals(Stores.stateOf(x)));
+        return x;
     }
 
     private static void refuse(int change, int a, int b) {
-        RoomGone x = sample();
-        if (isRefused(x, change, a, b)) {
+        if (isRefused(sample(), change, a, b)) {
             Due.yes("refused change " + change + " with " + a + ", " + b + " changes nothing",
-                BEFORE.equals(Stores.stateOf(x)));
+                BEFORE.equals(QUESTIONS.answersOf(() -> {
+                    RoomGone x = sample();
+                    isRefused(x, change, a, b);
+                    return x;
+                })));
         }
     }
 
