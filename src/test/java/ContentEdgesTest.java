@@ -5,6 +5,7 @@ public final class ContentEdgesTest {
     private static final int[] NO_FILES = {-1, 2, 3, 39, 40, 63, 64, LEAST, GREATEST};
 
     public static void main(String[] args) {
+        noFile40();
         promise10NoSuchFile();
         promise10PlacesUpToLength();
         promise10Place59AtMost();
@@ -54,6 +55,27 @@ public final class ContentEdgesTest {
             x.hole(0, place);
         }
         return x;
+    }
+
+    private static void noFile40() {
+        Due.about("promises 10 to 14 and 29, FILES are at most 40");
+        RoomGone x = new RoomGone();
+        for (int file = 0; file < 40; file++) {
+            x.file(0, 0, 0);
+        }
+        Due.is("write to 39", x.write(39, 0), 0);
+        Due.none("write to 40", x.write(40, 0));
+        Due.yes("hole in 39", x.hole(39, 1));
+        Due.no("hole in 40", x.hole(40, 0));
+        Due.yes("share from 39", x.share(38, 0, 39, 0));
+        Due.no("share from 40", x.share(38, 0, 40, 0));
+        Due.no("share to 40", x.share(40, 0, 39, 0));
+        Due.yes("cut 39", x.cut(39, 1));
+        Due.no("cut 40", x.cut(40, 0));
+        Due.is("block of 39", x.block(39, 0), 0);
+        Due.none("block of 40", x.block(40, 0));
+        Due.is("told of 39", x.told(39, 0), 1);
+        Due.none("told of 40", x.told(40, 0));
     }
 
     private static void promise10NoSuchFile() {
@@ -165,6 +187,13 @@ public final class ContentEdgesTest {
         Due.is("now 1 is free", x.write(0, 2), 1);
         Due.is("2 is the least", x.write(0, 3), 2);
         Due.is("4 is the least", x.write(0, 4), 4);
+        x.snapshot();
+        x.cut(0, 0);
+        Due.is("the snapshot has 0 to 4", x.write(0, 0), 5);
+        x.copy(0, 0);
+        x.drop(0);
+        x.unlink(0);
+        Due.is("the copy has 5 alone", x.write(2, 1), 0);
     }
 
     private static void promise10WhatWasThereGoes() {

@@ -29,6 +29,7 @@ public final class FoldersAndNamesEdgesTest {
         promise6HundredNames();
         promise6OfNothing();
         promise6OfALongFileInAFullStore();
+        promise6AllPlaces();
         promise6ItsChangeIsNow();
         promise7NoSuchFile();
         promise7NoSuchFolder();
@@ -404,6 +405,27 @@ public final class FoldersAndNamesEdgesTest {
         Due.is("a name of the copy can be copied", x.copy(1, 0), 2);
         x.unlink(0);
         Due.is("the copies keep them", x.told(2, 5), 60);
+    }
+
+    private static void promise6AllPlaces() {
+        Due.about("promise 6, all its BLOCKS and HOLES, from the first to the last place");
+        RoomGone x = new RoomGone();
+        Stores.fileOf(x, 2);
+        x.write(0, 0);
+        for (int place = 2; place < 59; place++) {
+            x.hole(0, place);
+        }
+        x.share(0, 59, 0, 0);
+        x.copy(0, 0);
+        for (int place = 0; place < 60; place++) {
+            Due.is("at " + place, x.block(1, place), place == 1 ? 1 : place % 59 == 0 ? 2 : -1);
+        }
+        Due.is("holes", x.told(1, 6), 57);
+        x.unlink(0);
+        x.cut(1, 59);
+        Due.is("place 0 has its block still", x.count(6), 2);
+        x.hole(1, 0);
+        Due.is("a hole in the copy", x.count(6), 1);
     }
 
     private static void promise6ItsChangeIsNow() {

@@ -89,6 +89,7 @@ public final class RefusedTest {
         x.write(0, 1);
         x.mark();
         x.go(1);
+        x.holds(50);
         return x;
     }
 
@@ -105,7 +106,7 @@ public final class RefusedTest {
     private static RoomGone allFolders() {
         RoomGone x = new RoomGone();
         for (int folder = 1; folder < 30; folder++) {
-            x.folder(folder / 2, folder % 6, folder % 7 == 0);
+            x.folder(folder / 2, folder % 6, folder % 9 == 0 || folder == 29);
         }
         Stores.fileIn(x, 29, 1, 2);
         return x;
