@@ -4,9 +4,12 @@ import java.lang.reflect.Method;
 import java.lang.reflect.Modifier;
 import java.nio.file.Files;
 import java.nio.file.Path;
+import java.util.ArrayList;
 import java.util.Arrays;
+import java.util.List;
 import java.util.Set;
 import java.util.TreeSet;
+import java.util.regex.Matcher;
 import java.util.regex.Pattern;
 
 /** The document's face, and those rules of LANGUAGE.md that can be seen from outside. */
@@ -20,15 +23,20 @@ public final class LanguageTest {
         "int both(int, int)", "int plan(int, int)", "int planned(int, int, int)", "int largest(int, int)",
         "boolean holds(int)", "int full(int)", "int told(int, int)", "int count(int)"
     };
+    private static final Pattern BODY =
+        Pattern.compile("(?m)^( {4}| {8})(?! )[^\\n=;]*\\) \\{\\n(?s:(.*?))\\n\\1\\}$");
     private static final String[] RULED_OUT = {
-        "\\bthrow\\b", "\\btry\\b", "\\bcatch\\b", "\\bsynchronized\\b", "\\bassert\\b", "->", "::", "\\bimport\\b",
-        "\\bpackage\\b", "[^\\x00-\\x7f]", "\\bequals\\b", "\\bhashCode\\b", "\\btoString\\b", "Exact\\b"
+        "\\bthrow\\b", "\\btry\\b", "\\bcatch\\b", "\\bsynchronized\\b", "\\bassert\\b", "->", "::",
+        "\\bimport\\b", "\\bpackage\\b", "\\bjava\\.", "\\bThread\\b", "\\bSystem\\.(?!arraycopy\\b)",
+        "\\bMath\\.random\\b", "Exact\\b", "\\bequals\\b", "\\bhashCode\\b", "\\btoString\\b",
+        "\\bstatic\\s*\\{", "\\bwhile\\s*\\(\\s*true\\b", "\\bfor\\s*\\([^;]*;\\s*;", "[^\\x00-\\x7f]"
     };
 
     public static void main(String[] args) throws Exception {
         methodsAreTheFace();
         fieldsAndConstructorsAreTheFace();
         nestedClassesKeepTheRules();
+        methodsTakeFewParameters();
         Due.is("the source's path is the argument", args.length, 1);
         sourceKeepsTheRules(Files.readString(Path.of(args[0])));
         Due.end();
@@ -82,6 +90,8 @@ public final class LanguageTest {
         Due.yes("twelve classes at most", nested.length < 12);
         for (Class<?> type : nested) {
             Due.yes(type + " is static", Modifier.isStatic(type.getModifiers()));
+            Due.no(type + " is public", Modifier.isPublic(type.getModifiers()));
+            Due.no(type + " is protected", Modifier.isProtected(type.getModifiers()));
             int own = 0;
             for (Field field : type.getDeclaredFields()) {
                 boolean fixed = Modifier.isStatic(field.getModifiers());
@@ -92,9 +102,31 @@ public final class LanguageTest {
         }
     }
 
+    private static void methodsTakeFewParameters() {
+        List<Class<?>> types = new ArrayList<>(Arrays.asList(RoomGone.class.getDeclaredClasses()));
+        types.add(RoomGone.class);
+        for (Class<?> type : types) {
+            for (Method method : type.getDeclaredMethods()) {
+                Due.yes(method + " takes seven at most", method.getParameterCount() <= 7);
+            }
+        }
+    }
+
+    /** A method's last line is the next brace that stands as far in as its first line. */
+    private static void bodiesAreShort(String source) {
+        Matcher body = BODY.matcher(source);
+        int found = 0;
+        while (body.find()) {
+            found++;
+            Due.yes("sixty lines at most: " + body.group(2), body.group(2).lines().count() <= 60);
+        }
+        Due.yes("methods are found in the source: " + found, found > FACE.length);
+    }
+
     private static void sourceKeepsTheRules(String source) {
         for (String pattern : RULED_OUT) {
             Due.no("the source has " + pattern, Pattern.compile(pattern).matcher(source).find());
         }
+        bodiesAreShort(source);
     }
 }
